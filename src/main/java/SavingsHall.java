@@ -325,7 +325,7 @@ public final class SavingsHall {
         return trade.number;
     }
 
-    /** Gives parts for cents, both below 0 the other way round: a trade is unwound by the same way. */
+    /** Parts and cents below 0 go the other way round, so that a trade is unwound as it was made. */
     private void exchange(Holding holding, long parts, long cents) {
         Fund fund = holding.fund;
         holding.client.cash -= cents;
@@ -346,15 +346,14 @@ public final class SavingsHall {
 
     private void enterIntoLots(Trade trade) {
         if (trade.isSale()) {
-            addGain(trade.holding.client, yearOf(trade.day), -trade.paid() - takeFromLots(trade));
+            addGain(trade.holding.client, yearOf(trade.day), -trade.paid() - takeCostFromLots(trade));
         } else {
             trade.partsLeft = trade.parts;
             trade.costLeft = trade.paid();
         }
     }
 
-    /** Returns what is taken of the costs of the lots. */
-    private long takeFromLots(Trade sale) {
+    private long takeCostFromLots(Trade sale) {
         long wanted = -sale.parts;
         long costTaken = 0;
         // When lots are found anew, those of later trades must not be sold before they were bought.
@@ -419,7 +418,7 @@ public final class SavingsHall {
         return Math.max(sum, 0);
     }
 
-    /** Sets what was paid for each year that has ended right, and returns what comes back. */
+    /** One way for the end of a year and for a complaint; what comes back is below 0 if it is taken. */
     private long settleTaxes(Client client) {
         long back = 0;
         for (int i = 0; i < yearOf(today) && i < client.taxesPaid.length; i++) {

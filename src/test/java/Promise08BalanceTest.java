@@ -98,6 +98,13 @@ public final class Promise08BalanceTest {
                 .due("price(1, 1000000)", 10000).due("price(2, 998000)", 10000).due("goal(0, 0, 50)", 50)
                 .due("goal(0, 2, 50)", 100).due("balance(0)", 1).due("tradeOf(0, 1)", 2).due("tradeOf(0, 3)", 999)
                 .due("tradeOf(0, 2)", 1);
+        new Script("trades of one cent").due("client()", 0).due("pay(0, 2000)", 2000).due("price(0, 1000)", 10000)
+                .due("buy(0, 0, 1000)", 0).due("cash(0)", 990).due("goal(0, 0, 50)", 50)
+                // 1000 of 1990, and 995 are due; then 995 of 1991, and 995 are due; then of 1992, 996.
+                .due("balance(0)", 1).due("tradeOf(1, 3)", 5).due("pay(0, 1)", 996).due("balance(0)", 0)
+                .due("pay(0, 1)", 997).due("balance(0)", 1).due("tradeOf(2, 2)", 1).due("tradeOf(2, 3)", 1)
+                .due("cash(0)", 996).due("pay(0, -2)", 994).due("balance(0)", 1).due("tradeOf(3, 2)", -1)
+                .due("tradeOf(3, 3)", 1).due("cash(0)", 995);
         new Script("all is as it is to be").due("client()", 0).due("pay(0, 20050)", 20050)
                 .due("buy(0, 0, 10000)", 0).due("goal(0, 0, 50)", 50).due("balance(0)", 0);
     }

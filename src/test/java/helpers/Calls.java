@@ -26,10 +26,17 @@ final class Calls {
         try {
             return String.valueOf(method(hall, name, arguments.length).invoke(hall, arguments));
         } catch (InvocationTargetException e) {
-            return "throws." + e.getCause().getClass().getSimpleName();
+            return tell(hall, e.getCause());
         } catch (IllegalAccessException e) {
             throw new AssertionError(e);
         }
+    }
+
+    /** An exception that no throw of the hall's own has made is told apart: the machine, or its library, threw it. */
+    private static String tell(Object hall, Throwable thrown) {
+        StackTraceElement[] stack = thrown.getStackTrace();
+        boolean own = stack.length > 0 && stack[0].getClassName().startsWith(hall.getClass().getName());
+        return (own ? "throws." : "machine.") + thrown.getClass().getSimpleName();
     }
 
     private static Method method(Object hall, String name, int arguments) {

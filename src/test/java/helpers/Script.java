@@ -50,7 +50,7 @@ final class Script {
 
     /** Makes a call of which the answer does not matter here. */
     Script make(String call) {
-        if (ask(call).startsWith("throws.")) {
+        if (ask(call).contains("Exception")) {
             report(call + " throws");
         }
         taken.add(call);
