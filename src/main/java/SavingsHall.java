@@ -258,7 +258,7 @@ public final class SavingsHall {
     }
 
     private static long cutQuotient(long dividend, long divisor) {
-        // Neither a price nor the parts left in a lot that is taken from are ever 0; the test keeps a slip from throwing.
+        // No price is 0, nor what is left of a lot that is taken from; the test keeps a slip from throwing.
         return divisor == 0 ? 0 : dividend / divisor;
     }
 
