@@ -6,20 +6,29 @@ import java.util.Map;
 /** Makes calls that are written as text, such as "buy(0, 1, 500)", and tells their answers as text. */
 final class Calls {
     private static final Map<String, Method> METHODS = new HashMap<>();
+    private static final Map<String, Call> READ = new HashMap<>();
+
+    private record Call(String name, Object[] arguments) {
+    }
 
     private Calls() {
     }
 
     /** The answer as a number, or throws. and the simple name of the exception. */
-    static String answer(Object hall, String call) {
-        int open = call.indexOf('(');
-        String inside = call.substring(open + 1, call.indexOf(')')).trim();
+    static String answer(Object hall, String text) {
+        Call call = READ.computeIfAbsent(text, Calls::read);
+        return answer(hall, call.name, call.arguments);
+    }
+
+    private static Call read(String text) {
+        int open = text.indexOf('(');
+        String inside = text.substring(open + 1, text.indexOf(')')).trim();
         String[] words = inside.isEmpty() ? new String[0] : inside.split("\\s*,\\s*");
         Object[] arguments = new Object[words.length];
         for (int i = 0; i < words.length; i++) {
             arguments[i] = Integer.parseInt(words[i]);
         }
-        return answer(hall, call.substring(0, open).trim(), arguments);
+        return new Call(text.substring(0, open).trim(), arguments);
     }
 
     static String answer(Object hall, String name, Object... arguments) {
